@@ -511,15 +511,12 @@ public final class HairRope {
 
         /** Goes on to the next TOKEN. */
         void step() {
-            turnTo(current + 1);
-        }
-
-        private void turnTo(int token) {
-            if (token >= 0 && token < ROOM) {
-                current = token;
-                kind = kinds[token];
-                start = starts[token];
-                value = values[token];
+            int next = current + 1;
+            if (next >= 0 && next < ROOM) {
+                current = next;
+                kind = kinds[next];
+                start = starts[next];
+                value = values[next];
             }
         }
 
@@ -532,7 +529,8 @@ public final class HairRope {
                 next = cut(token, first);
                 more = next > first;
             }
-            turnTo(0);
+            current = NONE;
+            step();
         }
 
         private int skipBlanks(int from) {

@@ -22,6 +22,7 @@ public final class ModelTest {
     public static void main(String[] args) throws InterruptedException {
         int runs = args.length > 0 ? Integer.parseInt(args[0]) : 400;
         int from = args.length > 1 ? Integer.parseInt(args[1]) : 0;
+        Thread.setDefaultUncaughtExceptionHandler((thread, thrown) -> Check.due(thread.getName() + " threw " + thrown, 1, 0));
         // The Model's recogniser goes as deep as a text's brackets; HairRope itself needs no such stack.
         Thread all = new Thread(null, () -> runAll(from, runs), "model", 1L << 28);
         all.start();

@@ -184,6 +184,11 @@ public final class PlanTest {
         Check.due("peace(40, 1)", x.peace(40, 1), 2);
         Check.due("joins(0, 2) stay", x.joins(0, 2), 20);
         Check.due("peace(0, 0) without HOUSES", new HairRope().peace(0, 0), -2);
+        // Made up both ways: b bears nothing besides, so it must be the lower one; or the upper one.
+        x = rope("house a 8 60; house b 6 9; well 14; joins = if like < 9 then 0 else 99;");
+        Check.due("peace(9, 1): a on b", x.peace(9, 1), 1);
+        x = rope("house a 8 9; house b 6 60; well 14; joins = if like < 9 then 0 else 99;");
+        Check.due("peace(9, 1): b on a", x.peace(9, 1), 1);
         String chain = "house a 5 99; house b 5 99; house c 5 99; house d 5 99; well 20; joins = like * 5; likes a b 0; likes b c 0;"
             + "likes c d 0; likes a c 0; likes b d 0; likes a d 0;";
         Check.due("peace(0, 0): three would do", rope(chain).peace(0, 0), -2);
@@ -325,6 +330,7 @@ public final class PlanTest {
         swap("house a 5 50; house b 5 50; joins = 99;", -2);
         swap("house a 5 99; house b 5 10; house c 5 99; joins = 999;", 12);
         swap("house a 5 10; house b 5 99; house c 5 99; joins = 999;", 2);
+        swap("house a 9 30; house b 2 31; joins = 999;", -2);
         // Both 1 and 2 come to 5, from 4.
         swap("house a 5 10; house b 1 99; house c 5 11; joins = 999;", 1);
         // a breaks with 0 at the top, and bears 3 below.

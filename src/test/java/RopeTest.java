@@ -25,6 +25,7 @@ public final class RopeTest {
         undoesForty();
         mostAndWeakest();
         mostEdges();
+        mostOfSix();
         belows();
         shares();
         quarrelsAndGreyest();
@@ -129,6 +130,10 @@ public final class RopeTest {
         costs("if hair < 11 then strong else 1", 50);
         costs("if hair < 10 then strong else 1", 1);
         costs("0010", 10);
+        costs("1 + 1 * (1 + 1 * (1 + 1 * (1 + 1 * (1 + 1 * (1 + 1 * (1 + 1 * 2))))))", 9);
+        costs("if 1 + 1 * (1 + 1 * (1 + 1 * (1 + 1 * 2))) < 1 + 1 * (1 + 1 * (1 + 1 * (1 + 1 * (1 + 1 * 2)))) then 3 else 4", 3);
+        costs("hair" + " * 1".repeat(190), 10);
+        costs("1" + " + 1".repeat(80), 81);
         HairRope x = rope("house a 10 50; costs = 7; grows = 3; costs = 9; grows = 4; weakens = 5;");
         Check.due("the last COSTS", x.house(0, 7), 9);
         Check.due("the last GROWS", x.house(0, 5), 4);
@@ -190,6 +195,9 @@ public final class RopeTest {
             int[] without = {3, 30, 0, 3, 0, 1, 1, 1, 0};
             Check.due(names[i] + " once unspliced", x.house(1, 7), without[i]);
         }
+        HairRope y = rope(vars + "costs = like + other;");
+        Check.due("JOINS ahead", y.joins(1, 2), 50);
+        Check.due("like and other of one HOUSE, behind JOINS", y.house(1, 7), 0);
         int[] ofTwo = {10, 50, 5, 0, 0, 0, 0, 0, 30};
         for (int i = 0; i < names.length; i++) {
             HairRope x = rope(vars + "joins = " + names[i] + ";");
@@ -454,6 +462,25 @@ public final class RopeTest {
         Check.due("most()", x.most(), -2);
         Check.due("weakest(0) at 0", x.weakest(0), 1);
         Check.due("weakest(1) at 0", x.weakest(1), 1);
+    }
+
+    private static void mostOfSix() {
+        String six = "house a 5 90; house b 5 89; house c 5 88; house d 5 87; house e 5 86; house f 5 99; well 30; ";
+        HairRope x = rope(six + "joins = 999;", 0, 1, 2, 3, 4, 5);
+        // They bear 65, 69, 73, 77, 81, 99.
+        Check.due("most() of six", x.most(), 65);
+        Check.due("haul(82) breaks the top", x.haul(82), 0);
+        x = rope(six + "joins = if which < 4 then 999 else 50;", 0, 1, 2, 3, 4, 5);
+        Check.due("most(): the lowest JOIN", x.most(), 45);
+        Check.due("weakest(0)", x.weakest(0), 5);
+        Check.due("weakest(1)", x.weakest(1), 1);
+        Check.due("quarrel(0)", x.quarrel(0), 5);
+        Check.due("haul(46)", x.haul(46), 5);
+        x = rope(six.replace("f 5 99", "f 5 40") + "joins = 999;", 0, 1, 2, 3, 4, 5);
+        Check.due("most(): the lowest PLAIT", x.most(), 40);
+        Check.due("weakest(0)", x.weakest(0), 5);
+        Check.due("weakest(1)", x.weakest(1), 0);
+        Check.due("haul(41)", x.haul(41), 5);
     }
 
     private static void belows() {

@@ -98,6 +98,10 @@ public final class TextTest {
         good("grows = 1;grows = 2;costs = 1 / 0;");
         good(SEVEN);
         good("house a 1 1; house b 1 1;" + "likes a b 1;".repeat(20));
+        good("house a 1 1; house aa 1 1; house b 1 1; house bb 1 1; house ab 1 1; house ba 1 1;");
+        good("house z 1 1; house az 1 1; house zz 1 1; house zzzzzzzz 1 1; house azzzzzzz 1 1; house aaaaaaaa 1 1;");
+        good("house mouse 1 1; house bell 1 1; house of 1 1; house eather 1 1; house wellx 1 1; house spliceda 1 1;");
+        good("grows = if ((((((1)))))) < ((((((2)))))) then ((((((3)))))) else ((((((4))))));");
         good("house likesa 1 1; house houses 1 1; house ifx 1 1; house grow 1 1; house weaken 1 1;");
     }
 
@@ -185,6 +189,9 @@ public final class TextTest {
         Check.fault("grows = (((((((1)))))));", 2, 14);
         Check.fault("grows = 1 + (2 * (((((3 - (4)))))));", 2, 26);
         Check.fault("grows = if (((((((1))))))) < 2 then 3 else 4;", 2, 17);
+        Check.fault("grows = if 1 < (((((((2))))))) then 3 else 4;", 2, 21);
+        Check.fault("grows = if 1 < 2 then (((((((3))))))) else 4;", 2, 28);
+        Check.fault("grows = if 1 < 2 then 3 else (((((((4)))))));", 2, 35);
     }
 
     private static void roomAndSyntax() {
