@@ -471,9 +471,10 @@ public final class HairRope {
         static final int ELSE = WORD + 12;
         static final int FIRST_VAR = WORD + 13;
 
-        private static final int WORD_WIDTH = 8;
         private static final int INT_WIDTH = 4;
         private static final int NAME_BASE = 32;
+        // The grammar's words in quotes, in the order of their kinds; WORD_WIDTH is a NAME's greatest, too.
+        private static final int WORD_WIDTH = 8;
         private static final String WORDS = "house   likes   well    water   grows   weakens joins   costs   blight  seed    if      then    else    hair    strong  like    year    place   which   spliced given   other   ";
         private static final String SIGNS = ";=+-*/<()";
 

@@ -62,10 +62,13 @@ final class Check {
         return rope.read();
     }
 
-    /** A new one that has read a text without FAULT. */
-    static HairRope ropeOf(String text) {
+    /** A new one that has read a text without FAULT, and in which some have given, one behind the other. */
+    static HairRope ropeOf(String text, int... spliced) {
         HairRope rope = new HairRope();
         due("read() of " + text, read(rope, text), 0);
+        for (int house : spliced) {
+            rope.splice(house);
+        }
         return rope;
     }
 

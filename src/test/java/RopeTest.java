@@ -34,14 +34,6 @@ public final class RopeTest {
         Check.end();
     }
 
-    private static HairRope rope(String text, int... spliced) {
-        HairRope x = Check.ropeOf(text);
-        for (int house : spliced) {
-            x.splice(house);
-        }
-        return x;
-    }
-
     private static void newObject() {
         HairRope x = new HairRope();
         Check.due("NONE", HairRope.NONE, -1);
@@ -57,7 +49,7 @@ public final class RopeTest {
     }
 
     private static void houses() {
-        HairRope x = rope(THREE, 1, 0);
+        HairRope x = Check.ropeOf(THREE, 1, 0);
         int[][] want = {{0, 50, 1, 10, 50, 1, 3, -1 + 1, 1}, {0, 30, 0, 6, 30, 2, 2, 0, 1}, {4, 20, -2, 0, 0, 3, 2, 4, 0}};
         for (int house = 0; house < 3; house++) {
             for (int what = 0; what <= 8; what++) {
@@ -73,7 +65,7 @@ public final class RopeTest {
     }
 
     private static void likesAndJoins() {
-        HairRope x = rope(THREE);
+        HairRope x = Check.ropeOf(THREE);
         int[][] likes = {{NONE, 7, 5}, {7, NONE, 3}, {5, 3, NONE}};
         int[][] joins = {{NONE, 65, 45}, {85, NONE, 35}, {75, 45, NONE}};
         for (int a = 0; a < 3; a++) {
@@ -91,20 +83,20 @@ public final class RopeTest {
         x.splice(0);
         x.years(5);
         Check.due("joins(1, 0), STRONG 40, year 5", x.joins(1, 0), 70);
-        HairRope y = rope("house a 10 50; house b 6 30; joins = like * 1000;");
+        HairRope y = Check.ropeOf("house a 10 50; house b 6 30; joins = like * 1000;");
         Check.due("joins of 999 at most", y.joins(0, 1), 999);
-        y = rope("house a 10 50; house b 6 30; joins = 3 - strong;");
+        y = Check.ropeOf("house a 10 50; house b 6 30; joins = 3 - strong;");
         Check.due("joins of 0 at least", y.joins(0, 1), 0);
-        y = rope("house a 10 50; house b 6 30;");
+        y = Check.ropeOf("house a 10 50; house b 6 30;");
         Check.due("joins untold", y.joins(0, 1), 50);
-        y = rope("house a 10 50; house b 6 30; joins = strong * 10 + which + place;", 1, 0);
+        y = Check.ropeOf("house a 10 50; house b 6 30; joins = strong * 10 + which + place;", 1, 0);
         Check.due("joins of the first one", y.joins(0, 1), 501);
         Check.due("joins of the other one", y.joins(1, 0), 301);
     }
 
     /** What COSTS of HOUSE 0 (HAIR 10, STRONG 50) are by a LAW. */
     private static void costs(String law, int want) {
-        HairRope x = rope("house a 10 50; house b 7 30; costs = " + law + ";");
+        HairRope x = Check.ropeOf("house a 10 50; house b 7 30; costs = " + law + ";");
         Check.due(law, x.house(0, 7), want);
     }
 
@@ -134,15 +126,15 @@ public final class RopeTest {
         costs("if 1 + 1 * (1 + 1 * (1 + 1 * (1 + 1 * 2))) < 1 + 1 * (1 + 1 * (1 + 1 * (1 + 1 * (1 + 1 * 2)))) then 3 else 4", 3);
         costs("hair" + " * 1".repeat(190), 10);
         costs("1" + " + 1".repeat(80), 81);
-        HairRope x = rope("house a 10 50; costs = 7; grows = 3; costs = 9; grows = 4; weakens = 5;");
+        HairRope x = Check.ropeOf("house a 10 50; costs = 7; grows = 3; costs = 9; grows = 4; weakens = 5;");
         Check.due("the last COSTS", x.house(0, 7), 9);
         Check.due("the last GROWS", x.house(0, 5), 4);
         Check.due("WEAKENS", x.house(0, 6), 5);
-        x = rope("house a 10 50;");
+        x = Check.ropeOf("house a 10 50;");
         Check.due("GROWS untold", x.house(0, 5), 1);
         Check.due("WEAKENS untold", x.house(0, 6), 1);
         Check.due("COSTS untold", x.house(0, 7), 10);
-        x = rope("house a 10 50; grows = 100; weakens = 0 - 5;");
+        x = Check.ropeOf("house a 10 50; grows = 100; weakens = 0 - 5;");
         Check.due("GROWS of 99 at most", x.house(0, 5), 99);
         Check.due("WEAKENS of 0 at least", x.house(0, 6), 0);
     }
@@ -173,7 +165,7 @@ public final class RopeTest {
         costs("if 1 < 2 then 3 else if 1 / 0 < 1 then 4 else 5", 3);
         costs("if 2 < 1 then 3 else if 1 / 0 < 1 then 4 else 5", 0);
         costs("0 / 5 + 6", 6);
-        HairRope x = rope("house a 10 50; house b 9 40; joins = 5 + like / (like - 5);");
+        HairRope x = Check.ropeOf("house a 10 50; house b 9 40; joins = 5 + like / (like - 5);");
         Check.due("JOINS divided by 0", x.joins(0, 1), 0);
     }
 
@@ -184,7 +176,7 @@ public final class RopeTest {
         int[] spliced = {0, 30, 0, 0, 1, 1, 2, 1, 0};
         int[] later = {3, 27, 0, 3, 1, 1, 2, 1, 0};
         for (int i = 0; i < names.length; i++) {
-            HairRope x = rope(vars + "costs = " + names[i] + ";");
+            HairRope x = Check.ropeOf(vars + "costs = " + names[i] + ";");
             Check.due(names[i] + " at first", x.house(1, 7), at0[i]);
             x.splice(2);
             x.splice(1);
@@ -195,18 +187,18 @@ public final class RopeTest {
             int[] without = {3, 30, 0, 3, 0, 1, 1, 1, 0};
             Check.due(names[i] + " once unspliced", x.house(1, 7), without[i]);
         }
-        HairRope y = rope(vars + "costs = like + other;");
+        HairRope y = Check.ropeOf(vars + "costs = like + other;");
         Check.due("JOINS ahead", y.joins(1, 2), 50);
         Check.due("like and other of one HOUSE, behind JOINS", y.house(1, 7), 0);
         int[] ofTwo = {10, 50, 5, 0, 0, 0, 0, 0, 30};
         for (int i = 0; i < names.length; i++) {
-            HairRope x = rope(vars + "joins = " + names[i] + ";");
+            HairRope x = Check.ropeOf(vars + "joins = " + names[i] + ";");
             Check.due("JOINS by " + names[i], x.joins(0, 1), ofTwo[i]);
         }
     }
 
     private static void splices() {
-        HairRope x = rope(THREE + "house d 0 9;");
+        HairRope x = Check.ropeOf(THREE + "house d 0 9;");
         Check.due("splice(3) of HAIR 0", x.splice(3), NONE);
         Check.due("splice(0)", x.splice(0), 10);
         Check.due("splice(0) again", x.splice(0), NONE);
@@ -229,7 +221,7 @@ public final class RopeTest {
         Check.due("splice(1) anew", x.splice(1), 10 + 4 + 8);
         Check.due("STRONG as at first", x.house(1, 4), 30);
         Check.due("given twice", x.house(1, 8), 2);
-        HairRope six = rope("house a 1 9; house b 2 9; house c 3 9; house d 4 9; house e 5 9; house f 6 9;", 5, 4, 3, 2, 1, 0);
+        HairRope six = Check.ropeOf("house a 1 9; house b 2 9; house c 3 9; house d 4 9; house e 5 9; house f 6 9;", 5, 4, 3, 2, 1, 0);
         Check.due("six in the ROPE", six.count(3), 6);
         Check.due("LONG of six", six.count(4), 21);
         Check.due("at(5)", six.at(5), 0);
@@ -237,7 +229,7 @@ public final class RopeTest {
     }
 
     private static void unsplices() {
-        HairRope x = rope(THREE);
+        HairRope x = Check.ropeOf(THREE);
         Check.due("unsplice() without ROPE", x.unsplice(), NONE);
         Check.due("nothing is done", x.count(9), 0);
         x.splice(2);
@@ -253,7 +245,7 @@ public final class RopeTest {
     }
 
     private static void hauls() {
-        HairRope x = rope(THREE, 0);
+        HairRope x = Check.ropeOf(THREE, 0);
         Check.due("haul(0) not LONG enough", x.haul(0), NONE);
         x.splice(1);
         Check.due("LONG as the WELL is deep", x.count(12), 1);
@@ -277,25 +269,25 @@ public final class RopeTest {
 
     private static void haulsThatBreakJoins() {
         String text = "house a 10 99; house b 10 99; house c 10 99; well 10; joins = if like < 3 then 15 else 60;";
-        HairRope x = rope(text + "likes b c 2;", 0, 1, 2);
+        HairRope x = Check.ropeOf(text + "likes b c 2;", 0, 1, 2);
         Check.due("most()", x.most(), 5);
         Check.due("haul(6) breaks the lower JOIN", x.haul(6), 2);
         x.undo();
         Check.due("haul(41): both JOINS break, the upper one counts", x.haul(41), 1);
         x.undo();
         Check.due("haul(90): the top PLAIT breaks", x.haul(90), 0);
-        x = rope(text + "likes b a 2;", 0, 1, 2);
+        x = Check.ropeOf(text + "likes b a 2;", 0, 1, 2);
         Check.due("haul(0): the upper JOIN bears 20", x.haul(0), 1);
         Check.due("haul(99) of one PLAIT", x.haul(99), 1);
         Check.due("haul(100) of one PLAIT", x.haul(100), 0);
-        x = rope("house a 10 50; house b 10 30; well 10; joins = 40;", 0, 1);
+        x = Check.ropeOf("house a 10 50; house b 10 30; well 10; joins = 40;", 0, 1);
         Check.due("haul(30) bears", x.haul(30), 2);
         Check.due("haul(31): JOIN above the PLAIT", x.haul(31), 1);
         Check.due("the upper one is left", x.at(0), 0);
     }
 
     private static void years() {
-        HairRope x = rope(THREE, 0, 1, 2);
+        HairRope x = Check.ropeOf(THREE, 0, 1, 2);
         Check.due("years(0)", x.years(0), 0);
         Check.due("years(0) is no thing done", x.count(9), 3);
         for (int no : new int[] {-1, 61, LEAST, GREATEST}) {
@@ -314,31 +306,31 @@ public final class RopeTest {
         Check.due("STRONG 0 at least", x.house(0, 4), 0);
         Check.due("STRONG at first stays", x.house(0, 1), 50);
         // All by how it was as the YEAR began: WEAKENS by the HAIR ahead of its growing, GROWS by STRONG ahead of it.
-        x = rope("house a 8 50; grows = strong; weakens = hair + 1;", 0);
+        x = Check.ropeOf("house a 8 50; grows = strong; weakens = hair + 1;", 0);
         x.years(1);
         Check.due("STRONG by HAIR 0", x.house(0, 4), 49);
         Check.due("HAIR by STRONG 50", x.house(0, 0), 50);
         x.years(1);
         Check.due("STRONG by HAIR 50", x.house(0, 4), 0);
         Check.due("HAIR by STRONG 49", x.house(0, 0), 99);
-        x = rope("house a 8 50; grows = year * 2 + 1;");
+        x = Check.ropeOf("house a 8 50; grows = year * 2 + 1;");
         x.years(3);
         Check.due("HAIR by the years 0, 1, 2", x.house(0, 0), 8 + 1 + 3 + 5);
     }
 
     private static void blights() {
-        HairRope x = rope("house a 20 50; house b 9 50; blight 100; seed 77;", 1);
+        HairRope x = Check.ropeOf("house a 20 50; house b 9 50; blight 100; seed 77;", 1);
         x.years(1);
         Check.due("half", x.house(0, 0), 10);
         Check.due("no HAIR", x.house(1, 0), 0);
         Check.due("PLAITS weaken all the same", x.house(1, 4), 49);
         x.years(2);
         Check.due("half of half of it, rounded down", x.house(0, 0), 2);
-        x = rope("house a 20 50; blight 0; seed 77;");
+        x = Check.ropeOf("house a 20 50; blight 0; seed 77;");
         x.years(5);
         Check.due("no BLIGHT", x.house(0, 0), 25);
         // LOT 100 of SEED 7: 9, 46, 24 for HOUSES 0, 1, 2 in the year 0; 2, 77, 22 in the year 1; 78, 62, 75 in the year 2.
-        x = rope("house a 20 50; house b 20 50; house c 20 50; blight 24; seed 7;");
+        x = Check.ropeOf("house a 20 50; house b 20 50; house c 20 50; blight 24; seed 7;");
         x.years(1);
         Check.due("LOT 9 is less than 24", x.house(0, 0), 10);
         Check.due("LOT 46 is not", x.house(1, 0), 21);
@@ -352,7 +344,7 @@ public final class RopeTest {
         Check.due("LOT 62", x.house(1, 0), 23);
         Check.due("LOT 75", x.house(2, 0), 11);
         // LOT 100 of SEED 9999 in the year 0: 69, 47, 96.
-        x = rope("house a 20 50; house b 20 50; house c 20 50; seed 9999; blight 70;");
+        x = Check.ropeOf("house a 20 50; house b 20 50; house c 20 50; seed 9999; blight 70;");
         x.years(1);
         Check.due("LOT 69", x.house(0, 0), 10);
         Check.due("LOT 47", x.house(1, 0), 10);
@@ -360,7 +352,7 @@ public final class RopeTest {
     }
 
     private static void undoes() {
-        HairRope x = rope(THREE);
+        HairRope x = Check.ropeOf(THREE);
         Check.due("undo() of nothing", x.undo(), false);
         x.splice(0);
         x.splice(1);
@@ -395,7 +387,7 @@ public final class RopeTest {
     }
 
     private static void undoesForty() {
-        HairRope x = rope("house a 1 9;");
+        HairRope x = Check.ropeOf("house a 1 9;");
         for (int i = 0; i < 45; i++) {
             x.years(1);
         }
@@ -415,7 +407,7 @@ public final class RopeTest {
     }
 
     private static void mostAndWeakest() {
-        HairRope x = rope(THREE, 0, 1, 2);
+        HairRope x = Check.ropeOf(THREE, 0, 1, 2);
         Check.due("most()", x.most(), 20);
         Check.due("weakest(0)", x.weakest(0), 2);
         Check.due("weakest(1)", x.weakest(1), 0);
@@ -427,38 +419,38 @@ public final class RopeTest {
         Check.due("weakest(0)", x.weakest(0), 1);
         Check.due("weakest(1)", x.weakest(1), 0);
         // a bears 6 besides, its JOIN 6, b nothing: 14, 14, 14.
-        x = rope("house a 10 20; house b 6 14; joins = 20; well 99;", 0, 1);
+        x = Check.ropeOf("house a 10 20; house b 6 14; joins = 20; well 99;", 0, 1);
         Check.due("most() though not LONG enough", x.most(), 14);
         Check.due("weakest(0): the highest of alike ones", x.weakest(0), 0);
         Check.due("weakest(1)", x.weakest(1), 0);
-        x = rope("house a 10 21; house b 6 14; joins = 20;", 0, 1);
+        x = Check.ropeOf("house a 10 21; house b 6 14; joins = 20;", 0, 1);
         Check.due("weakest(0): the JOIN is higher than the PLAIT", x.weakest(0), 1);
         Check.due("weakest(1)", x.weakest(1), 1);
-        x = rope("house a 10 21; house b 6 14; joins = 21;", 0, 1);
+        x = Check.ropeOf("house a 10 21; house b 6 14; joins = 21;", 0, 1);
         Check.due("weakest(0)", x.weakest(0), 1);
         Check.due("weakest(1)", x.weakest(1), 0);
     }
 
     private static void mostEdges() {
-        HairRope x = rope(THREE);
+        HairRope x = Check.ropeOf(THREE);
         Check.due("most() without ROPE", x.most(), 999);
         Check.due("weakest(0) without ROPE", x.weakest(0), -2);
         Check.due("weakest(1) without ROPE", x.weakest(1), -2);
         Check.due("weakest(2) without ROPE", x.weakest(2), NONE);
-        x = rope("house a 10 20; house b 20 14; joins = 20;", 0, 1);
+        x = Check.ropeOf("house a 10 20; house b 20 14; joins = 20;", 0, 1);
         Check.due("most() of 0", x.most(), 0);
         Check.due("weakest(0) of 0", x.weakest(0), 0);
         // The top bears 20 with 19; the JOIN bears just that.
-        x = rope("house a 10 19; house b 20 14; joins = 20;", 0, 1);
+        x = Check.ropeOf("house a 10 19; house b 20 14; joins = 20;", 0, 1);
         Check.due("most(): it breaks with 0", x.most(), -2);
         Check.due("weakest(0)", x.weakest(0), 0);
         Check.due("weakest(1)", x.weakest(1), 0);
-        x = rope("house a 10 20; house b 20 14; joins = 19;", 0, 1);
+        x = Check.ropeOf("house a 10 20; house b 20 14; joins = 19;", 0, 1);
         Check.due("most(): the JOIN breaks with 0", x.most(), -2);
         Check.due("weakest(0)", x.weakest(0), 1);
         Check.due("weakest(1)", x.weakest(1), 1);
         // The lower JOIN would break at 1, but at 0 it is the upper one alone.
-        x = rope("house a 9 99; house b 9 99; house c 9 99; joins = if which < 1 then 10 else 9;", 0, 1, 2);
+        x = Check.ropeOf("house a 9 99; house b 9 99; house c 9 99; joins = if which < 1 then 10 else 9;", 0, 1, 2);
         Check.due("most()", x.most(), -2);
         Check.due("weakest(0) at 0", x.weakest(0), 1);
         Check.due("weakest(1) at 0", x.weakest(1), 1);
@@ -466,17 +458,17 @@ public final class RopeTest {
 
     private static void mostOfSix() {
         String six = "house a 5 90; house b 5 89; house c 5 88; house d 5 87; house e 5 86; house f 5 99; well 30; ";
-        HairRope x = rope(six + "joins = 999;", 0, 1, 2, 3, 4, 5);
+        HairRope x = Check.ropeOf(six + "joins = 999;", 0, 1, 2, 3, 4, 5);
         // They bear 65, 69, 73, 77, 81, 99.
         Check.due("most() of six", x.most(), 65);
         Check.due("haul(82) breaks the top", x.haul(82), 0);
-        x = rope(six + "joins = if which < 4 then 999 else 50;", 0, 1, 2, 3, 4, 5);
+        x = Check.ropeOf(six + "joins = if which < 4 then 999 else 50;", 0, 1, 2, 3, 4, 5);
         Check.due("most(): the lowest JOIN", x.most(), 45);
         Check.due("weakest(0)", x.weakest(0), 5);
         Check.due("weakest(1)", x.weakest(1), 1);
         Check.due("quarrel(0)", x.quarrel(0), 5);
         Check.due("haul(46)", x.haul(46), 5);
-        x = rope(six.replace("f 5 99", "f 5 40") + "joins = 999;", 0, 1, 2, 3, 4, 5);
+        x = Check.ropeOf(six.replace("f 5 99", "f 5 40") + "joins = 999;", 0, 1, 2, 3, 4, 5);
         Check.due("most(): the lowest PLAIT", x.most(), 40);
         Check.due("weakest(0)", x.weakest(0), 5);
         Check.due("weakest(1)", x.weakest(1), 0);
@@ -484,7 +476,7 @@ public final class RopeTest {
     }
 
     private static void belows() {
-        HairRope x = rope(THREE, 0, 1, 2);
+        HairRope x = Check.ropeOf(THREE, 0, 1, 2);
         Check.due("below(0)", x.below(0), 10);
         Check.due("below(1)", x.below(1), 4);
         Check.due("below(2)", x.below(2), 0);
@@ -494,7 +486,7 @@ public final class RopeTest {
     }
 
     private static void shares() {
-        HairRope x = rope(THREE);
+        HairRope x = Check.ropeOf(THREE);
         Check.due("share(0) without ROPE", x.share(0), 0);
         x.splice(0);
         Check.due("share(0) alone", x.share(0), 1000);
@@ -502,7 +494,7 @@ public final class RopeTest {
         Check.due("share(0)", x.share(0), 625);
         Check.due("share(1)", x.share(1), 375);
         Check.due("share(2) without PLAIT", x.share(2), 0);
-        x = rope("house a 1 9; house b 2 9;", 0, 1);
+        x = Check.ropeOf("house a 1 9; house b 2 9;", 0, 1);
         Check.due("a third, rounded down", x.share(0), 333);
         Check.due("two thirds, rounded down", x.share(1), 666);
         for (int no : new int[] {-1, 2, 6, LEAST, GREATEST}) {
@@ -511,7 +503,7 @@ public final class RopeTest {
     }
 
     private static void quarrelsAndGreyest() {
-        HairRope x = rope(THREE);
+        HairRope x = Check.ropeOf(THREE);
         for (int what = 0; what < 2; what++) {
             Check.due("quarrel(" + what + ") without ROPE", x.quarrel(what), -2);
             Check.due("greyest(" + what + ") without ROPE", x.greyest(what), -2);
@@ -530,16 +522,16 @@ public final class RopeTest {
             Check.due("quarrel(" + no + ")", x.quarrel(no), NONE);
             Check.due("greyest(" + no + ")", x.greyest(no), NONE);
         }
-        x = rope("house a 9 30; house b 9 20; house c 9 20; joins = 7;", 0, 1, 2);
+        x = Check.ropeOf("house a 9 30; house b 9 20; house c 9 20; joins = 7;", 0, 1, 2);
         Check.due("quarrel(0): the highest of alike ones", x.quarrel(0), 1);
         Check.due("greyest(0): the highest of alike ones", x.greyest(0), 1);
-        HairRope none = rope("");
+        HairRope none = Check.ropeOf("");
         Check.due("quarrel(5) of none", none.quarrel(5), NONE);
         Check.due("greyest(5) of none", none.greyest(5), NONE);
     }
 
     private static void holds() {
-        HairRope x = rope(THREE, 0, 1);
+        HairRope x = Check.ropeOf(THREE, 0, 1);
         Check.due("restore(0) of nothing held", x.restore(0), false);
         Check.due("undo stays", x.count(9), 2);
         for (int no : new int[] {-1, 3, LEAST, GREATEST}) {
@@ -580,7 +572,7 @@ public final class RopeTest {
     }
 
     private static void counts() {
-        HairRope x = rope(THREE + "house d 0 9;", 1, 0);
+        HairRope x = Check.ropeOf(THREE + "house d 0 9;", 1, 0);
         x.haul(7);
         x.years(1);
         Check.feed(x, "house");
