@@ -1347,7 +1347,8 @@ public final class HairRope {
             trial.copyFrom(now);
             for (int years = 0; years <= MAX_YEARS; years++) {
                 planner.lookAt(trial);
-                if (planner.anyHolds(w)) {
+                planner.survey(w);
+                if (planner.ropes > 0) {
                     return years;
                 }
                 rules.ageAll(trial, 0, 0);
@@ -1421,17 +1422,24 @@ public final class HairRope {
         }
     }
 
-    /** PLANNED ROPES of a State: goes through all of them that bear a haul, each grown from its lower end. */
+    /** PLANNED ROPES of a State, reckoned by which HOUSES are in them and which one is at the top. */
     private static final class Planner {
+        private static final int SETS = 1 << MAX_HOUSES;
+        private static final int ROPES = SETS * MAX_HOUSES;
+
         private final Rules rules;
         private final int[] strongs = new int[MAX_HOUSES];
         private final int[] joinRows = new int[MAX_HOUSES * MAX_HOUSES];
         private final int[] peaceRows = new int[MAX_HOUSES * MAX_HOUSES];
+        // By set and top: the greatest haul that an order of them bears; of those that bear the one wanted how many
+        // there are, and the first (its HOUSES from the top, by 6).
+        private final int[] hauls = new int[ROPES];
+        private final int[] ways = new int[ROPES];
+        private final int[] codes = new int[ROPES];
         private int wanted;
-        private boolean oneIsEnough;
         private int fewestCode;
-        // What each HOUSE has to give, and (bits) who has anything.
-        final int[] longs = new int[MAX_HOUSES];
+        // What HOUSES have to give, by set (bits), and who has anything.
+        private final int[] sums = new int[SETS];
         int able;
         // Of those that HOLD what was asked for: how many, the greatest haul, the fewest PLAITS, HOUSES in all.
         int ropes;
@@ -1465,11 +1473,17 @@ public final class HairRope {
             able = 0;
             for (int house = 0; house < rules.text.houses && house < MAX_HOUSES; house++) {
                 int place = state.placeOf(house);
-                longs[house] = place < 0 ? state.hair[house] : state.length[place];
+                int has = place < 0 ? state.hair[house] : state.length[place];
                 strongs[house] = rules.strongOf(state, house, place);
-                if (place >= 0 || longs[house] > 0) {
-                    able |= 1 << house;
-                }
+                able |= has > 0 ? 1 << house : 0;
+                addToSums(1 << house, has);
+            }
+        }
+
+        /** Sets with a HOUSE are numbered behind all sets of the HOUSES ahead of it. */
+        private void addToSums(int bit, int has) {
+            for (int set = 0; set < bit && (set | bit) < SETS; set++) {
+                sums[set | bit] = sums[set] + has;
             }
         }
 
@@ -1477,66 +1491,80 @@ public final class HairRope {
             return (able & 1 << house) != 0;
         }
 
+        /** Whether what HOUSES have, added, is as the WELL is deep or more. */
+        boolean reaches(int set) {
+            return set >= 0 && set < SETS && sums[set] >= rules.text.well;
+        }
+
+        /** Goes through the sets, each behind those that it is made of. */
         void survey(int w) {
-            oneIsEnough = false;
-            search(w);
-        }
-
-        boolean anyHolds(int w) {
-            oneIsEnough = true;
-            search(w);
-            return ropes > 0;
-        }
-
-        private void search(int w) {
             wanted = w;
             ropes = 0;
             peakHaul = NEVER;
             fewestPlaits = MAX_HOUSES + 1;
             fewestCode = 0;
             inAll = able;
-            extend(this, NONE, 0, 0, MAX_HAUL, 0);
+            for (int set = 1; set < SETS; set++) {
+                if ((set & ~able) == 0) {
+                    surveySet(set);
+                }
+            }
         }
 
-        /** A rope of some PLAITS (bits: used) that bears haul at most; code tells its HOUSES from the top, by 6. */
-        private static void extend(Planner plan, int top, int used, int hanging, int haul, int code) {
-            int size = Integer.bitCount(used);
-            if (size > 0 && hanging >= plan.rules.text.well) {
-                plan.note(used, haul, code);
-            }
-            int weight = powerOfSix(size);
-            for (int house = 0; size < MAX_HOUSES && house < MAX_HOUSES; house++) {
-                if (plan.oneIsEnough && plan.ropes > 0) {
-                    return;
-                }
-                if (plan.isAble(house) && (used & 1 << house) == 0) {
-                    int bears = Math.min(haul, plan.limitUpon(house, top) - hanging);
-                    if (bears >= plan.wanted) {
-                        extend(plan, house, used | 1 << house, hanging + plan.longs[house], bears, house * weight + code);
+        private void surveySet(int set) {
+            for (int top = 0; top < MAX_HOUSES; top++) {
+                if ((set & 1 << top) != 0) {
+                    build(set, top);
+                    if (reaches(set)) {
+                        note(set, set * MAX_HOUSES + top);
                     }
                 }
             }
         }
 
-        /** What a PLAIT bears when it is put upon a rope, and its JOIN with the rope's top, if there is one. */
-        private int limitUpon(int house, int top) {
-            if (house < 0 || house >= MAX_HOUSES) {
-                return NEVER;
+        /** All ropes of a set with a HOUSE at the top: it is put upon each rope of the others. */
+        private void build(int set, int top) {
+            int rope = set * MAX_HOUSES + top;
+            int rest = set & ~(1 << top);
+            if (top < 0 || top >= MAX_HOUSES || rope < 0 || rope >= ROPES) {
+                return;
             }
-            if (top < 0 || top >= MAX_HOUSES) {
-                return strongs[house];
+            hauls[rope] = rest == 0 ? Math.min(MAX_HAUL, strongs[top]) : NEVER;
+            ways[rope] = hauls[rope] >= wanted ? 1 : 0;
+            codes[rope] = top;
+            int code = top * powerOfSix(Integer.bitCount(rest));
+            for (int next = 0; next < MAX_HOUSES; next++) {
+                if ((rest & 1 << next) != 0) {
+                    int bears = Math.min(strongs[top], joinRows[top * MAX_HOUSES + next]) - sums[rest];
+                    putUpon(rope, rest * MAX_HOUSES + next, bears, code);
+                }
             }
-            return Math.min(strongs[house], joinRows[house * MAX_HOUSES + top]);
         }
 
-        private void note(int used, int haul, int code) {
-            int size = Integer.bitCount(used);
-            ropes++;
-            peakHaul = Math.max(peakHaul, haul);
-            inAll &= used;
-            if (size < fewestPlaits || size == fewestPlaits && code < fewestCode) {
+        private void putUpon(int rope, int lower, int bears, int code) {
+            if (rope < 0 || rope >= ROPES || lower < 0 || lower >= ROPES) {
+                return;
+            }
+            int haul = Math.min(bears, hauls[lower]);
+            hauls[rope] = Math.max(hauls[rope], haul);
+            if (haul >= wanted) {
+                int whole = code + codes[lower];
+                codes[rope] = ways[rope] == 0 ? whole : Math.min(codes[rope], whole);
+                ways[rope] += ways[lower];
+            }
+        }
+
+        private void note(int set, int rope) {
+            if (rope < 0 || rope >= ROPES || ways[rope] < 1) {
+                return;
+            }
+            int size = Integer.bitCount(set);
+            ropes += ways[rope];
+            peakHaul = Math.max(peakHaul, hauls[rope]);
+            inAll &= set;
+            if (size < fewestPlaits || size == fewestPlaits && codes[rope] < fewestCode) {
                 fewestPlaits = size;
-                fewestCode = code;
+                fewestCode = codes[rope];
             }
         }
 
@@ -1558,7 +1586,8 @@ public final class HairRope {
 
         /** PEACE of what was looked at: how few pairs (what 0), the first one, the next one. */
         int makePeace(State state, int w, int what) {
-            if (anyHolds(w)) {
+            survey(w);
+            if (ropes > 0) {
                 return what == 0 ? 0 : NONE;
             }
             findJoins(state, peaceRows, true);
@@ -1598,7 +1627,8 @@ public final class HairRope {
             if (next != first) {
                 exchangePair(next);
             }
-            boolean holds = anyHolds(w);
+            survey(w);
+            boolean holds = ropes > 0;
             exchangePair(first);
             if (next != first) {
                 exchangePair(next);
@@ -1666,25 +1696,15 @@ public final class HairRope {
         }
 
         private int gain(int set, int house) {
-            int water = isEnough(set) ? rules.text.water : 0;
+            int water = planner.reaches(set) ? rules.text.water : 0;
             boolean gives = house >= 0 && house < MAX_HOUSES && (set & 1 << house) != 0;
             return gives ? water - costs[house] : water;
-        }
-
-        private boolean isEnough(int set) {
-            int sum = 0;
-            for (int house = 0; house < MAX_HOUSES; house++) {
-                if ((set & 1 << house) != 0) {
-                    sum += planner.longs[house];
-                }
-            }
-            return sum >= rules.text.well;
         }
 
         int pivotBits() {
             int bits = 0;
             for (int house = 0; house < rules.text.houses && house < MAX_HOUSES; house++) {
-                if (!isEnough(planner.able & ~(1 << house))) {
+                if (!planner.reaches(planner.able & ~(1 << house))) {
                     bits |= 1 << house;
                 }
             }

@@ -1,18 +1,61 @@
+import java.io.IOException;
 import java.nio.charset.StandardCharsets;
+import java.nio.file.Files;
+import java.nio.file.Path;
+import java.util.Arrays;
 
 /** What the tests have in common: a count of wrong answers, and how a text is fed and read. */
 final class Check {
+    static final int NONE = HairRope.NONE;
+    static final int LEAST = Integer.MIN_VALUE;
+    static final int GREATEST = Integer.MAX_VALUE;
+    /** For by(): the words stand in the document's Terms. */
+    static final int TERMS = 0;
+
+    private static final Path DOC = Path.of("../shared/DOC.md");
+    private static final int SHOWN = 40;
+    private static String doc = null;
+    private static String sentence = "";
     private static int asked = 0;
     private static int wrong = 0;
 
     private Check() { }
 
+    /**
+     * The sentence of the document that the answers from here on are due by: of a promise, or of the TERMS.
+     * It must stand there word for word.
+     */
+    static void by(int promise, String words) {
+        sentence = (promise == TERMS ? "Terms" : "promise " + promise) + ", \"" + words + "\": ";
+        due("a sentence that stands in the document", section(promise).contains(words), true);
+    }
+
+    /** A promise's text, or the Terms with all parts, blanks made one. */
+    static String section(int promise) {
+        String all = doc();
+        String head = promise == TERMS ? "## Terms" : "## Promise " + promise + ":";
+        int from = all.indexOf(head);
+        int to = all.indexOf("## ", from + head.length());
+        return from < 0 ? "" : all.substring(from + head.length(), to < 0 ? all.length() : to);
+    }
+
+    private static String doc() {
+        if (doc == null) {
+            try {
+                doc = Files.readString(DOC, StandardCharsets.UTF_8).replaceAll("\\s+", " ");
+            } catch (IOException e) {
+                throw new IllegalStateException("no document at " + DOC, e);
+            }
+        }
+        return doc;
+    }
+
     static void due(String call, long got, long want) {
         asked++;
         if (got != want) {
             wrong++;
-            if (wrong <= 40) {
-                System.out.println(call + " answered " + got + ", due is " + want);
+            if (wrong <= SHOWN) {
+                System.out.println(sentence + call + " answered " + got + ", due is " + want);
             }
         }
     }
@@ -33,11 +76,16 @@ final class Check {
         }
     }
 
+    /** Numbers that are not in least .. greatest: the nearest ones, and the ends of all ints. */
+    static int[] outside(int least, int greatest) {
+        return new int[] {least - 1, greatest + 1, LEAST, GREATEST, LEAST + 1, GREATEST - 1};
+    }
+
     /** The bytes of a text, filled up with blanks to whole feeds. */
     static byte[] filledUp(String text) {
         byte[] bytes = text.getBytes(StandardCharsets.ISO_8859_1);
-        byte[] full = java.util.Arrays.copyOf(bytes, (bytes.length + 19) / 20 * 20);
-        java.util.Arrays.fill(full, bytes.length, full.length, (byte) ' ');
+        byte[] full = Arrays.copyOf(bytes, (bytes.length + 19) / 20 * 20);
+        Arrays.fill(full, bytes.length, full.length, (byte) ' ');
         return full;
     }
 
@@ -77,5 +125,10 @@ final class Check {
         HairRope rope = new HairRope();
         due("read() of " + text, read(rope, text), number);
         due("place() of " + text, rope.place(), place);
+    }
+
+    /** A text without FAULT. */
+    static void good(String text) {
+        fault(text, 0, NONE);
     }
 }
