@@ -111,6 +111,14 @@ public final class PlanEdgeTest {
             Check.due("weakest(0)", x.weakest(0), r[5]);
             Check.due("weakest(1)", x.weakest(1), r[6]);
         }
+        // MOST is 0: it breaks with 1, not with 0.
+        int[][] noughts = {{10, 5, 1, 11, 5, 0, 0}, {11, 5, 1, 10, 5, 1, 1}, {11, 4, 1, 11, 5, 1, 0}, {11, 5, 1, 11, 4, 2, 1}};
+        for (int[] r : noughts) {
+            HairRope x = threeOf(r);
+            Check.due("most()", x.most(), 0);
+            Check.due("weakest(0) of MOST 0", x.weakest(0), r[5]);
+            Check.due("weakest(1) of MOST 0", x.weakest(1), r[6]);
+        }
         HairRope x = Check.ropeOf("house a 9 99;", 0);
         Check.due("weakest(0) of one", x.weakest(0), 0);
         Check.due("weakest(1) of one", x.weakest(1), 0);
@@ -450,6 +458,10 @@ public final class PlanEdgeTest {
         String foes = "likes a b 0;likes a c 0;likes a d 0;likes b c 0;likes b d 0;likes c d 0;";
         // Two of them: a JOIN of 27 bears 5 and 22 more.
         peace(four + "well 10;", 10, 0, -1, -1);
+        // Just one rope holds it, and nobody needs to be made up.
+        peace("house a 10 50;well 10;", 50, 0, -1, -1);
+        peace("house a 10 50;well 10;", 51, NOT, NOT, NOT);
+        peace("house a 10 50;house b 9 60;well 19;joins=99;likes a b 0;", 50, 0, -1, -1);
         peace(four + "well 10;", 11, 1, 1, -1);
         peace(four + "well 10;", 22, 1, 1, -1);
         peace(four + "well 10;", 23, NOT, NOT, NOT);
@@ -687,6 +699,9 @@ public final class PlanEdgeTest {
         // The ROPE as it is: what HOUSES grow is not spliced, but LAWS may look at it.
         x = Check.ropeOf("house a 8 99;house b 6 99;weakens=0;joins=50-hair;", 0, 1);
         Check.due("lasts(40): 6 below, HAIR of 5", x.lasts(40), 5);
+        // Not even the one YEAR in which a LOT of SEED 0 is 0 is one of BLIGHT.
+        x = Check.ropeOf("house a 8 99;house b 6 99;weakens=0;joins=60-hair;", 0, 1);
+        Check.due("lasts(35): 6 below, HAIR of 20", x.lasts(35), 20);
         x = Check.ropeOf("house a 8 30;house b 6 30;joins=999;weakens=place*2+1;", 0, 1);
         Check.due("lasts(20): a by 1 a YEAR, with 6 below; b by 3", x.lasts(20), 4);
         Check.due("lasts(0): a in 25, b in 31 at least", x.lasts(0), 25);

@@ -945,6 +945,16 @@ public final class RopeEdgeTest {
         HairRope all = Check.ropeOf("house a 0 9;house b 0 9;house c 0 9;house d 0 9;house e 0 9;house f 0 9;");
         Check.due("count(15) of all", all.count(15), 63);
         Check.due("count(6) of none", all.count(6), 0);
+        HairRope each = Check.ropeOf(SIX.replace("house a 1", "house a 20").replace("house f 6", "house f 19"));
+        Check.due("count(6) of each", each.count(6), 20 + 2 + 3 + 4 + 5 + 19);
+        for (int house = 5; house >= 0; house--) {
+            each.splice(house);
+        }
+        Check.due("count(4) of each", each.count(4), 53);
+        Check.due("count(7) of each", each.count(7), 63);
+        Check.due("count(14) of each", each.count(14), 6);
+        Check.due("count(15) of each", each.count(15), 63);
+        Check.due("count(16) of each", each.count(16), 11 + 12 + 13 + 14 + 15 + 16);
     }
 
     private static void countNone() {

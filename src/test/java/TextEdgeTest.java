@@ -56,6 +56,7 @@ public final class TextEdgeTest {
         wrong();
         faultChangesNothing();
         goodTextBeginsAnew();
+        nothingIsLeftOfTextsAhead();
         Check.end();
     }
 
@@ -800,6 +801,37 @@ public final class TextEdgeTest {
             Check.due("no SLOT", x.count(11), 0);
             Check.due("restore(1)", x.restore(1), false);
             Trace.same(x, Check.ropeOf(text), "a text behind another one");
+        }
+    }
+
+    /** As full a text as may be, again and again, with FAULTS between; then one that tells nothing, and one of two HOUSES. */
+    private static void nothingIsLeftOfTextsAhead() {
+        Check.by(Check.TERMS, "else it is in place of the one ahead");
+        String full = SIX + "likes a b 1;".repeat(20) + "well 9;water 9;blight 99;seed 7;grows=" + "7*".repeat(38) + "1;weakens=9;joins=9;costs=9;";
+        HairRope x = new HairRope();
+        for (int i = 0; i < 6; i++) {
+            Check.due("read() of a full text", Check.read(x, full), 0);
+            Check.due("HOUSES", x.count(0), 6);
+            Check.due("read() of a full text with a FAULT", Check.read(x, full + "well 0;"), 5);
+        }
+        for (int i = 0; i < 2; i++) {
+            Check.due("read()", Check.read(x, "house b 20 9;house a 19 8;"), 0);
+            int[] counts = {2, 20, 0, 0, 0, 0, 39, 0, 0, 0, 0, 0, 0, 10, 0, 0, 0};
+            for (int what = 0; what < counts.length; what++) {
+                Check.due("count(" + what + ")", x.count(what), counts[what]);
+            }
+            Check.due("LIKES untold", x.likes(0, 1), 5);
+            Check.due("JOINS untold", x.joins(0, 1), 50);
+            int[] laws = {1, 1, 20};
+            for (int what = 5; what <= 7; what++) {
+                Check.due("house(0, " + what + ") untold", x.house(0, what), laws[what - 5]);
+            }
+            Check.due("no BLIGHT told", x.then(0, 1, 0), 21);
+        }
+        for (int i = 0; i < 2; i++) {
+            // LOT 100 of SEED 0 is 69 there, of SEED 7 it is 9.
+            Check.due("read()", Check.read(x, "house b 20 9;blight 69;"), 0);
+            Check.due("no SEED told", x.then(0, 1, 0), 21);
         }
     }
 }
