@@ -141,12 +141,13 @@ public final class HairRope {
     }
 
     public int unsplice() {
-        if (state.plaits < 1) {
+        int lowest = state.plaits - 1;
+        if (!isPlace(lowest)) {
             return NONE;
         }
         history.keep(state);
-        state.plaits--;
-        return state.whose[state.plaits];
+        state.plaits = lowest;
+        return state.whose[lowest];
     }
 
     public int haul(int w) {
@@ -312,7 +313,7 @@ public final class HairRope {
         }
         int best = NEVER;
         int least = NEVER;
-        for (int place = 0; place < state.plaits; place++) {
+        for (int place = 0; place < state.plaits && place < MAX_HOUSES; place++) {
             int strong = state.strength[place];
             if (best < 0 || strong < least) {
                 best = place;
@@ -415,7 +416,7 @@ public final class HairRope {
     }
 
     private boolean isHouse(int house) {
-        return house >= 0 && house < rules.text.houses;
+        return house >= 0 && house < rules.text.houses && house < MAX_HOUSES;
     }
 
     private boolean areTwo(int house, int other) {
@@ -423,7 +424,7 @@ public final class HairRope {
     }
 
     private boolean isPlace(int place) {
-        return place >= 0 && place < state.plaits;
+        return place >= 0 && place < state.plaits && place < MAX_HOUSES;
     }
 
     private boolean isKnown(int k) {

@@ -19,6 +19,7 @@ import java.util.regex.Pattern;
 
 /** What LANGUAGE.md asks for and a program can look up: the face, the words used, the library, the sizes. */
 public final class LanguageTest {
+    private static final Path DOC = Path.of("../shared/DOC.md");
     private static final Path SOURCE = Path.of("src/main/java/HairRope.java");
     private static final String FACE = "int feed(int,int,int,int,int);int back(int);int read();int place();int house(int,int);"
         + "int likes(int,int);int joins(int,int);int at(int);int splice(int);int unsplice();int haul(int);int years(int);"
@@ -35,6 +36,7 @@ public final class LanguageTest {
 
     public static void main(String[] args) throws Exception {
         face();
+        faceOfTheDocument();
         List<Class<?>> classes = new ArrayList<>(List.of(HairRope.class));
         classes.addAll(Arrays.asList(HairRope.class.getDeclaredClasses()));
         Check.due("some twelve classes", classes.size() <= 12, true);
@@ -66,6 +68,22 @@ public final class LanguageTest {
         for (Field f : HairRope.class.getDeclaredFields()) {
             Check.due("only NONE is seen: " + f, !Modifier.isPrivate(f.getModifiers()), f.getName().equals("NONE"));
         }
+    }
+
+    /** FACE is what the document's block of Java lists, out of its constant and its constructor. */
+    private static void faceOfTheDocument() throws IOException {
+        String doc = Files.readString(DOC);
+        int from = doc.indexOf("```java");
+        String block = doc.substring(from, doc.indexOf("```", from + 3)).replaceAll("\\s+", " ");
+        Check.due("the class", block.contains("public final class HairRope {"), true);
+        Check.due("the constant", block.contains("public static final int NONE = -1;") && HairRope.NONE == -1, true);
+        Check.due("the constructor", block.contains("public HairRope();"), true);
+        Set<String> due = new TreeSet<>();
+        Matcher m = Pattern.compile("public (int|boolean) (\\w+)\\(([^)]*)\\);").matcher(block);
+        while (m.find()) {
+            due.add(m.group(1) + " " + m.group(2) + "(" + m.group(3).replaceAll("(int|boolean) \\w+", "$1").replace(" ", "") + ")");
+        }
+        Check.due("the document's face " + due, due.equals(new TreeSet<>(Arrays.asList(FACE.split(";")))), true);
     }
 
     private static void members(Class<?> c) {

@@ -645,6 +645,10 @@ public final class TextEdgeTest {
         HairRope x = Check.ropeOf("house a 1 1;costs=" + "1+".repeat(64) + "1;grows=" + "1+".repeat(97) + "1;");
         Check.due("the sum of 98", x.house(0, 5), 98);
         Check.due("the sum of 65", x.house(0, 7), 65);
+        // Two HOUSES and one LAW of 390 TOKENS: its last number counts, too.
+        String law = "house a 1 1;house b 1 1;grows=" + "0+".repeat(193) + "7;";
+        Check.due("a LAW that fills the room", Check.ropeOf(law).house(1, 5), 7);
+        Check.fault(law + "well", 2, law.length());
     }
 
     private static void roomOfSorts() {
