@@ -22,7 +22,19 @@ public final class ReuseTest {
         afterOtherTexts();
         inAnyOrder();
         namesOfOtherTexts();
+        givingOfOtherTexts();
         Check.end();
+    }
+
+    /** Those who could give in the text ahead, for nothing, are not there any more. */
+    private static void givingOfOtherTexts() {
+        HairRope x = Check.ropeOf("house a 20 9;house b 20 9;house c 20 9;house d 20 9;house e 20 9;house f 20 9;costs=0;");
+        Check.due("rests(0) of six, each of whom is ENOUGH alone", x.rests(0), 63);
+        Check.due("pivots() of six", x.pivots(), 0);
+        Check.due("read()", Check.read(x, "house a 1 9;"), 0);
+        Check.due("rests(0) of one who is not ENOUGH", x.rests(0), 1);
+        Check.due("rests(1) of one who is not ENOUGH", x.rests(1), 0);
+        Check.due("pivots() of one", x.pivots(), 1);
     }
 
     private static void afterOtherTexts() {
